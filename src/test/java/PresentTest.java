@@ -1,0 +1,48 @@
+/** Promise 3: present. */
+public final class PresentTest {
+    public static void main(String[] args) {
+        AlloyPlans x = Check.withPlan();
+        SpanChecks.check("present", x, 1, x::present);
+        tellsEachElementApart();
+        tellsASampleBehindAnAdding();
+        forgetsThePlan();
+        Check.end();
+    }
+
+    private static void tellsEachElementApart() {
+        AlloyPlans x = new AlloyPlans();
+        for (int element = 0; element < 4; element++) {
+            x.present(element, 10 + element, 20 + 2 * element);
+        }
+        for (int i = 0; i < 4; i++) {
+            int element = i;
+            Check.gives("low " + element, 10 + element, () -> x.heatAt(1 + 2 * element));
+            Check.gives("high " + element, 20 + 2 * element, () -> x.heatAt(2 + 2 * element));
+        }
+        x.present(2, 0, 100_000);
+        Check.gives("low told anew", 0, () -> x.heatAt(5));
+        Check.gives("high told anew", 100_000, () -> x.heatAt(6));
+        Check.gives("the one before it stays", 22, () -> x.heatAt(4));
+        Check.gives("the one behind it stays", 13, () -> x.heatAt(7));
+    }
+
+    private static void tellsASampleBehindAnAdding() {
+        AlloyPlans x = Check.withPlan();
+        x.add();
+        x.present(0, 900, 3001);
+        Check.gives("sampled low", 900, () -> x.heatAt(1));
+        Check.gives("sampled high", 3001, () -> x.heatAt(2));
+        Check.gives("kilos stay", 104, () -> x.heatAt(0));
+        Check.gives("a correction for the low end", 1, () -> x.run(0));
+        x.present(0, 900, 1000);
+        Check.gives("a correction", 0, () -> x.run(1000));
+        Check.gives("its steps", 1, () -> x.steps(0));
+        Check.gives("corrections", 1, x::add);
+    }
+
+    private static void forgetsThePlan() {
+        AlloyPlans x = Check.withPlan();
+        x.present(0, 100, 200);
+        Check.planIsForgotten("behind the same sample again", x);
+    }
+}

@@ -1,0 +1,48 @@
+/** Promise 9: steps. */
+public final class StepsTest {
+    public static void main(String[] args) {
+        tellsStepsOfEachKind();
+        refuses();
+        Check.end();
+    }
+
+    private static void tellsStepsOfEachKind() {
+        AlloyPlans x = new AlloyPlans();
+        x.heat(100);
+        for (int kind = 0; kind < 4; kind++) {
+            x.kind(1, 1, 3 * kind);
+            x.holds(kind, kind, 10_000, 10_000);
+            x.aim(kind, 70 * kind, 100_000);
+        }
+        Check.gives("run", 0, () -> x.run(0));
+        int[] due = {0, 1, 2, 3};
+        for (int i = 0; i < 4; i++) {
+            int kind = i;
+            Check.gives("steps of " + kind, due[kind], () -> x.steps(kind));
+        }
+        x.aim(1, 0, 0);
+        x.aim(2, 0, 0);
+        x.run(0);
+        Check.gives("steps told anew", 0, () -> x.steps(2));
+    }
+
+    private static void refuses() {
+        AlloyPlans x = Check.withPlan();
+        refusesIndexes(x);
+        x.aim(3, 0, 0);
+        Check.refuses("no plan", Check.TURN, () -> x.steps(0));
+        refusesIndexes(x);
+        x.run(1000);
+        x.add();
+        Check.refuses("no plan behind an adding", Check.TURN, () -> x.steps(0));
+    }
+
+    private static void refusesIndexes(AlloyPlans x) {
+        for (int kind : new int[] {1, 2, 3, 4}) {
+            Check.refuses("steps of " + kind, Check.INDEX, () -> x.steps(kind));
+        }
+        for (int kind : Check.FAR_OUT) {
+            Check.refuses("steps of " + kind, Check.INDEX, () -> x.steps(kind));
+        }
+    }
+}
