@@ -415,7 +415,7 @@ public final class AlloyPlans {
         }
     }
 
-    /** Goes through the numbers of steps, kind 0's slowest: of plans as good as each other it meets the first one first. */
+    /** Goes through the numbers of steps, kind 0's slowest, so that of equal plans the first one comes first. */
     private static final class Search {
         boolean found;
         /** The most elements from 0 on that some numbers of steps meet: when none is found, the element named. */
@@ -465,7 +465,7 @@ public final class AlloyPlans {
             }
         }
 
-        /** Further steps never lower the cents, the kinds or the cooling, so what fails here fails with more of them. */
+        /** Further steps never lower the cents, the kinds or the cooling: what fails here fails with more of them. */
         private boolean isWorthTrying(Mix mix) {
             if (mix.heatLeft < 0) {
                 return false;

@@ -14,7 +14,8 @@ final class Check {
     static final Class<? extends RuntimeException> MEANING = UnsupportedOperationException.class;
 
     /** Numbers that no argument of the class may be. */
-    static final int[] FAR_OUT = {Integer.MIN_VALUE, Integer.MIN_VALUE + 1, -1, Integer.MAX_VALUE - 1, Integer.MAX_VALUE};
+    static final int[] FAR_OUT = {Integer.MIN_VALUE, Integer.MIN_VALUE + 1, -1, Integer.MAX_VALUE - 1,
+        Integer.MAX_VALUE};
 
     private static int checked = 0;
     private static int wrong = 0;

@@ -3,7 +3,7 @@ public final class HeatAtTest {
     public static void main(String[] args) {
         tellsTheHeat();
         tellsCentsAddedNotPlanned();
-        sumsCentsBeyondAnInt();
+        sumsManyCents();
         refuses();
         Check.end();
     }
@@ -31,8 +31,8 @@ public final class HeatAtTest {
         Check.gives("added cents", 20, () -> x.heatAt(9));
     }
 
-    /** The dearest plan as often as an object's calls bear it. */
-    private static void sumsCentsBeyondAnInt() {
+    /** The dearest plan, some eighty times. */
+    private static void sumsManyCents() {
         AlloyPlans x = new AlloyPlans();
         for (int kind = 0; kind < 4; kind++) {
             x.kind(100_000, 1, 12);
