@@ -2,6 +2,7 @@
 public final class AddTest {
     public static void main(String[] args) {
         addsAndRounds();
+        roundsTheLeastUpAndTheMostDown();
         countsCorrections();
         refusesWithoutAPlan();
         refusesTooManyKilos();
@@ -27,6 +28,33 @@ public final class AddTest {
         heatIs("low rounded down, high up, whole ones as they are", x, 104, 1057, 1347, 100, 100, 6, 9, 0, 1, 20);
         Check.refuses("a plan is added once", Check.TURN, x::add);
         heatIs("behind a refused adding", x, 104, 1057, 1347, 100, 100, 6, 9, 0, 1, 20);
+    }
+
+    /** One thousandth of a share over two kilos, and one thousandth below a whole share. */
+    private static void roundsTheLeastUpAndTheMostDown() {
+        AlloyPlans x = new AlloyPlans();
+        x.kind(0, 1, 1);
+        x.holds(0, 0, 0, 1);
+        x.yields(0, 1, 0);
+        x.present(1, 2, 2);
+        x.aim(1, 0, 1);
+        Check.gives("run", 0, () -> x.run(0));
+        Check.gives("upper", 1, () -> x.after(0, 1, 0));
+        Check.gives("lower", 2000, () -> x.after(0, 1, 1));
+        x.add();
+        heatIs("just above 0", x, 2, 0, 1, 1, 1);
+
+        AlloyPlans y = new AlloyPlans();
+        y.present(0, 1, 1);
+        y.kind(0, 1, 1);
+        y.holds(0, 0, 1, 1);
+        y.yields(0, 999, 0);
+        y.present(1, 2, 2);
+        y.aim(1, 0, 1);
+        y.run(0);
+        Check.gives("upper", 1999, () -> y.after(0, 0, 0));
+        y.add();
+        heatIs("just below 1", y, 2, 0, 1, 1, 1);
     }
 
     private static void countsCorrections() {

@@ -71,6 +71,10 @@ public final class RunTest {
         Check.gives("run", 0, () -> x.run(0));
         hasSteps("one kind comes before a first one of two", x, 0, 0, 1);
         Check.gives("kinds", 1, () -> x.planned(2));
+        AlloyPlans more = ofKinds(10, new int[][] {{4, 1, 3, 1000}, {6, 1, 1, 1500}, {6, 1, 1, 1500}});
+        more.aim(0, 220, 100_000);
+        Check.gives("run of more steps", 0, () -> more.run(0));
+        hasSteps("three steps of one kind come before two of two", more, 3, 0, 0);
         AlloyPlans free = ofKinds(10, new int[][] {{0, 1, 1, 1000}, {0, 1, 2, 1000}});
         free.aim(0, 160, 100_000);
         Check.gives("run of what costs nothing", 0, () -> free.run(0));
