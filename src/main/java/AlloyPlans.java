@@ -101,8 +101,7 @@ public final class AlloyPlans {
     public int run(int heatLeft) throws IllegalArgumentException {
         requireRange(isWithin(heatLeft, 0, MOST_HEAT_LEFT));
         plan.forget();
-        search.begin(melt, alloys, kindCount, heatLeft);
-        search.tryKindsFrom(0, alloys, kindCount);
+        search.goThrough(melt, alloys, kindCount, heatLeft);
         if (!search.found) {
             return 1 + search.mostMet;
         }
@@ -436,16 +435,17 @@ public final class AlloyPlans {
             }
         }
 
-        void begin(Melt melt, Alloy[] alloys, int kindCount, int heatLeft) {
+        void goThrough(Melt melt, Alloy[] alloys, int kindCount, int heatLeft) {
             found = false;
             mostMet = 0;
             for (int kind = 0; kind < kindCount && kind < alloys.length; kind++) {
                 alloys[kind].weighAgainst(melt.aimEnds);
             }
             mixes[0].becomeHeat(melt, heatLeft);
+            tryKindsFrom(0, alloys, kindCount);
         }
 
-        void tryKindsFrom(int kind, Alloy[] alloys, int kindCount) {
+        private void tryKindsFrom(int kind, Alloy[] alloys, int kindCount) {
             if (kind >= kindCount || kind >= alloys.length || kind >= tried.length) {
                 judge(mixes[kind]);
                 return;

@@ -1,9 +1,17 @@
+import java.math.BigInteger;
+
 /** Promise 12: after. */
 public final class AfterTest {
     public static void main(String[] args) {
-        tellsLowestTerms();
-        tellsGreatNumbers();
-        refuses();
+        Check.sentence("after: An element's end by the plan (0 low, 1 high)", AfterTest::tellsBothEnds);
+        Check.sentence("after: in lowest terms: part 0 the upper, 1 the lower number", AfterTest::tellsLowestTerms);
+        Check.sentence("after: in lowest terms: of 0", AfterTest::tellsNothing);
+        Check.sentence("after: in lowest terms: of a whole number", AfterTest::tellsWholeNumbers);
+        Check.sentence("after: in lowest terms: of the greatest", AfterTest::tellsGreatNumbers);
+        Check.sentence("after: Index: no such element", AfterTest::refusesNoSuchElement);
+        Check.sentence("after: Index: no such .. end", AfterTest::refusesNoSuchEnd);
+        Check.sentence("after: Index: no such .. part", AfterTest::refusesNoSuchPart);
+        Check.sentence("after: turn: there is no plan", AfterTest::refusesWithoutAPlan);
         Check.end();
     }
 
@@ -15,27 +23,46 @@ public final class AfterTest {
         }
     }
 
-    private static void tellsLowestTerms() {
+    private static void tellsBothEnds() {
         AlloyPlans x = Check.withPlan();
         has(x, 0, 13_750, 13, 17_500, 13);
-        has(x, 1, 0, 1, 0, 1);
         x.present(1, 7, 9);
-        x.present(3, 100_000, 100_000);
         x.run(1000);
         has(x, 1, 175, 26, 225, 26);
-        has(x, 3, 1_250_000, 13, 1_250_000, 13);
+    }
+
+    private static void tellsLowestTerms() {
         AlloyPlans y = new AlloyPlans();
         y.heat(3);
         y.present(0, 1, 1);
         y.kind(0, 1, 1);
         y.holds(0, 0, 1, 2);
         y.yields(0, 333, 0);
-        y.aim(1, 0, 0);
         y.present(2, 4, 4);
         y.aim(2, 0, 3);
         Check.gives("run", 0, () -> y.run(0));
         has(y, 0, 3333, 4000, 1833, 2000);
         has(y, 2, 3, 1, 3, 1);
+    }
+
+    private static void tellsNothing() {
+        AlloyPlans x = Check.withPlan();
+        has(x, 1, 0, 1, 0, 1);
+        has(x, 3, 0, 1, 0, 1);
+        AlloyPlans y = new AlloyPlans();
+        y.heat(65_536);
+        y.run(0);
+        has(y, 0, 0, 1, 0, 1);
+    }
+
+    private static void tellsWholeNumbers() {
+        AlloyPlans x = new AlloyPlans();
+        x.heat(65_535);
+        x.present(0, 0, 100_000);
+        x.present(3, 1, 99_999);
+        x.run(0);
+        has(x, 0, 0, 1, 100_000, 1);
+        has(x, 3, 1, 1, 99_999, 1);
     }
 
     private static void tellsGreatNumbers() {
@@ -54,31 +81,46 @@ public final class AfterTest {
         long low = 65_536L * 99_991 * 1000 + 48L * 997 * 99_989 * 997;
         long high = 65_536L * 99_991 * 1000 + 48L * 997 * 99_999 * 997;
         long whole = 1000L * (65_536 + 48 * 997);
-        java.math.BigInteger all = java.math.BigInteger.valueOf(whole);
-        long lowBy = all.gcd(java.math.BigInteger.valueOf(low)).longValue();
-        long highBy = all.gcd(java.math.BigInteger.valueOf(high)).longValue();
+        BigInteger all = BigInteger.valueOf(whole);
+        long lowBy = all.gcd(BigInteger.valueOf(low)).longValue();
+        long highBy = all.gcd(BigInteger.valueOf(high)).longValue();
         has(x, 0, low / lowBy, whole / lowBy, high / highBy, whole / highBy);
     }
 
-    private static void refuses() {
+    private static void refusesNoSuchElement() {
         AlloyPlans x = Check.withPlan();
-        refusesIndexes(x);
-        x.aim(3, 0, 0);
-        refusesIndexes(x);
-        for (int i = 0; i < 16; i++) {
-            int place = i;
-            Check.refuses("no plan", Check.TURN, () -> x.after(place / 4, place / 2 % 2, place % 2));
+        Check.refuses("element -1", Check.INDEX, () -> x.after(-1, 0, 0));
+        Check.refuses("element -1, high", Check.INDEX, () -> x.after(-1, 1, 0));
+        Check.refuses("element 4", Check.INDEX, () -> x.after(4, 0, 0));
+        for (int far : Check.FAR_OUT) {
+            Check.refuses("element " + far, Check.INDEX, () -> x.after(far, 0, 0));
         }
     }
 
-    private static void refusesIndexes(AlloyPlans x) {
-        Check.refuses("element 4", Check.INDEX, () -> x.after(4, 0, 0));
+    private static void refusesNoSuchEnd() {
+        AlloyPlans x = Check.withPlan();
+        Check.refuses("end -1", Check.INDEX, () -> x.after(1, -1, 0));
         Check.refuses("end 2", Check.INDEX, () -> x.after(0, 2, 0));
+        for (int far : Check.FAR_OUT) {
+            Check.refuses("end " + far, Check.INDEX, () -> x.after(0, far, 0));
+        }
+    }
+
+    private static void refusesNoSuchPart() {
+        AlloyPlans x = Check.withPlan();
+        Check.refuses("part -1", Check.INDEX, () -> x.after(0, 0, -1));
         Check.refuses("part 2", Check.INDEX, () -> x.after(0, 0, 2));
         for (int far : Check.FAR_OUT) {
-            Check.refuses("element " + far, Check.INDEX, () -> x.after(far, 0, 0));
-            Check.refuses("end " + far, Check.INDEX, () -> x.after(0, far, 0));
             Check.refuses("part " + far, Check.INDEX, () -> x.after(0, 0, far));
+        }
+    }
+
+    private static void refusesWithoutAPlan() {
+        AlloyPlans x = Check.withPlan();
+        x.aim(3, 0, 0);
+        for (int i = 0; i < 16; i++) {
+            int place = i;
+            Check.refuses("after", Check.TURN, () -> x.after(place / 4, place / 2 % 2, place % 2));
         }
     }
 }

@@ -1,27 +1,12 @@
 /** Promise 4: aim. */
 public final class AimTest {
     public static void main(String[] args) {
-        AlloyPlans x = Check.withPlan();
-        SpanChecks.check("aim", x, 1, x::aim);
-        holdsAtBothEnds();
-        asksOfEachElementApart();
-        forgetsThePlan();
+        Check.sentence("aim: An aim", AimTest::asksOfEachElementApart);
+        Check.sentence("aim: An aim: not what is present", AimTest::leavesWhatIsPresent);
+        Check.sentence("aim: Likewise. (Index: no such element)", () -> SpanChecks.noSuchElement(AlloyPlans::aim));
+        Check.sentence("aim: Likewise. (range: shares)", () -> SpanChecks.sharesOutOfRange(AlloyPlans::aim));
+        Check.sentence("aim: Likewise. (range: low above high)", () -> SpanChecks.lowAboveHigh(AlloyPlans::aim));
         Check.end();
-    }
-
-    private static void holdsAtBothEnds() {
-        AlloyPlans x = new AlloyPlans();
-        x.present(0, 400, 500);
-        int[][] met = {{400, 500}, {0, 500}, {400, 100_000}, {0, 100_000}, {399, 501}};
-        int[][] unmet = {{401, 500}, {400, 499}, {401, 499}, {500, 500}, {400, 400}, {501, 600}, {0, 399}};
-        for (int[] aim : met) {
-            x.aim(0, aim[0], aim[1]);
-            Check.gives("met " + aim[0] + " " + aim[1], 0, () -> x.run(0));
-        }
-        for (int[] aim : unmet) {
-            x.aim(0, aim[0], aim[1]);
-            Check.gives("unmet " + aim[0] + " " + aim[1], 1, () -> x.run(0));
-        }
     }
 
     private static void asksOfEachElementApart() {
@@ -30,15 +15,20 @@ public final class AimTest {
             x.aim(element, 1, 5);
             Check.gives("named " + element, 1 + element, () -> x.run(0));
             x.aim(element, 0, 0);
-            Check.gives("met again " + element, 0, () -> x.run(0));
+            Check.gives("told anew, met again " + element, 0, () -> x.run(0));
+            x.aim(element, 100_000, 100_000);
+            Check.gives("all asked of " + element, 1 + element, () -> x.run(0));
+            x.present(element, 100_000, 100_000);
+            Check.gives("all present of " + element, 0, () -> x.run(0));
+            x.aim(element, 0, 99_999);
+            Check.gives("not all asked of " + element, 1 + element, () -> x.run(0));
         }
     }
 
-    private static void forgetsThePlan() {
+    private static void leavesWhatIsPresent() {
         AlloyPlans x = Check.withPlan();
-        String heat = x.heatAt(1) + " " + x.heatAt(2);
-        x.aim(0, 1000, 3000);
-        Check.planIsForgotten("behind the same aim again", x);
-        Check.same("an aim leaves what is present", heat, x.heatAt(1) + " " + x.heatAt(2));
+        x.aim(0, 7, 8);
+        Check.gives("low", 100, () -> x.heatAt(1));
+        Check.gives("high", 200, () -> x.heatAt(2));
     }
 }

@@ -8,19 +8,32 @@ final class Check {
         void happen();
     }
 
+    interface DeedOn {
+        void happenOn(AlloyPlans x);
+    }
+
     static final Class<? extends RuntimeException> INDEX = IndexOutOfBoundsException.class;
     static final Class<? extends RuntimeException> TURN = IllegalStateException.class;
     static final Class<? extends RuntimeException> RANGE = IllegalArgumentException.class;
     static final Class<? extends RuntimeException> MEANING = UnsupportedOperationException.class;
 
-    /** Numbers that no argument of the class may be. */
-    static final int[] FAR_OUT = {Integer.MIN_VALUE, Integer.MIN_VALUE + 1, -1, Integer.MAX_VALUE - 1,
-        Integer.MAX_VALUE};
+    /** Numbers that no argument of the class may be; some wrap around to small ones when doubled or multiplied. */
+    static final int[] FAR_OUT = {Integer.MIN_VALUE, Integer.MIN_VALUE + 1, -(1 << 30), -65_536, -2, -1, 1 << 30,
+        (1 << 30) + 1, Integer.MAX_VALUE - 1, Integer.MAX_VALUE};
 
     private static int checked = 0;
     private static int wrong = 0;
 
     private Check() {
+    }
+
+    /** One test, of one sentence of the document; the words are the document's own. */
+    static void sentence(String words, Deed test) {
+        int checkedBefore = checked;
+        int wrongBefore = wrong;
+        String outcome = outcome(test);
+        same(words, "done, with checks", checked > checkedBefore ? outcome + ", with checks" : outcome);
+        System.out.println((wrong == wrongBefore ? "ok      " : "FAILED  ") + words);
     }
 
     static void gives(String told, long want, Call call) {
@@ -30,6 +43,17 @@ final class Check {
     /** The exception's class must be the very one, as the machine's own are classes below it. */
     static void refuses(String told, Class<? extends RuntimeException> want, Deed deed) {
         same(told, want.getName(), outcome(deed));
+    }
+
+    /** A refused call leaves all as it was: what can be asked, and what is hidden and shows in the next plan. */
+    static void refusedLeavesAll(String told, Class<? extends RuntimeException> want, DeedOn deed) {
+        AlloyPlans x = withPlan();
+        String before = seen(x, 1);
+        refuses(told, want, () -> deed.happenOn(x));
+        same(told + ", behind it", before, seen(x, 1));
+        gives(told + ", a further run", 0, () -> x.run(12));
+        same(told + ", behind a further run", before, seen(x, 1));
+        gives(told + ", no more heat is needed and no less does", 1, () -> x.run(11));
     }
 
     static void same(String told, String want, String got) {
@@ -104,7 +128,7 @@ final class Check {
     }
 
     static void end() {
-        System.out.println(checked + " checked, " + wrong + " wrong");
+        System.out.println("        " + checked + " answers checked, " + wrong + " wrong");
         if (wrong != 0 || checked == 0) {
             System.exit(1);
         }

@@ -31,17 +31,20 @@ public final class FaceTest {
         "static {"};
 
     public static void main(String[] args) throws IOException {
-        hasTheFace();
-        hasNoOtherName();
+        String text = Files.readString(Path.of(args.length > 0 ? args[0] : "src/main/java/AlloyPlans.java"));
+        Check.sentence("The public face", FaceTest::hasTheFace);
+        Check.sentence("No private method bears the name of a public one", FaceTest::hasNoOtherName);
+        Check.sentence("No other static state", FaceTest::hasConstantsAlone);
+        Check.sentence("The Java that the program keeps to", () -> keepsToTheText(text));
+        Check.end();
+    }
+
+    private static void hasConstantsAlone() {
         hasNoStaticState(AlloyPlans.class);
         for (Class<?> inside : AlloyPlans.class.getDeclaredClasses()) {
             Check.same(inside + " is static", "true", "" + Modifier.isStatic(inside.getModifiers()));
             hasNoStaticState(inside);
         }
-        if (args.length > 0) {
-            keepsToTheText(Files.readString(Path.of(args[0])));
-        }
-        Check.end();
     }
 
     private static void hasTheFace() {

@@ -1,33 +1,13 @@
 /** Promise 6: holds. */
 public final class HoldsTest {
     public static void main(String[] args) {
-        asksLikeSpans();
-        refusesNoSuchKind();
-        tellsEachKindAndElementApart();
-        forgetsThePlan();
+        SpanChecks.Telling ofKind0 = (x, element, low, high) -> x.holds(0, element, low, high);
+        Check.sentence("holds: A kind's shares of an element", HoldsTest::tellsEachKindAndElementApart);
+        Check.sentence("holds: Index: no such kind", HoldsTest::refusesNoSuchKind);
+        Check.sentence("holds: Index: no such .. element", () -> SpanChecks.noSuchElement(ofKind0));
+        Check.sentence("holds: range: likewise (shares)", () -> SpanChecks.sharesOutOfRange(ofKind0));
+        Check.sentence("holds: range: likewise (low above high)", () -> SpanChecks.lowAboveHigh(ofKind0));
         Check.end();
-    }
-
-    private static void asksLikeSpans() {
-        AlloyPlans x = Check.withPlan();
-        SpanChecks.check("holds of kind 0", x, 1, (element, low, high) -> x.holds(0, element, low, high));
-    }
-
-    private static void refusesNoSuchKind() {
-        AlloyPlans x = Check.withPlan();
-        for (int kind : new int[] {1, 2, 3, 4, 5}) {
-            refusesKind(x, kind);
-        }
-        for (int kind : Check.FAR_OUT) {
-            refusesKind(x, kind);
-        }
-        Check.planStands("behind a holds refused by index", x);
-    }
-
-    private static void refusesKind(AlloyPlans x, int kind) {
-        Check.refuses("holds of kind " + kind, Check.INDEX, () -> x.holds(kind, 0, 0, 0));
-        Check.refuses("holds of kind " + kind + " and a wrong span", Check.INDEX, () -> x.holds(kind, 0, 5, 4));
-        Check.refuses("holds of kind " + kind + " and no element", Check.INDEX, () -> x.holds(kind, 4, 0, 0));
     }
 
     private static void tellsEachKindAndElementApart() {
@@ -53,9 +33,21 @@ public final class HoldsTest {
         Check.gives("told anew", 2, () -> x.run(0));
     }
 
-    private static void forgetsThePlan() {
+    private static void refusesNoSuchKind() {
         AlloyPlans x = Check.withPlan();
-        x.holds(0, 0, 50000, 60000);
-        Check.planIsForgotten("behind the same shares again", x);
+        for (int kind : new int[] {-1, 1, 2, 3, 4, 5}) {
+            refusesKind(x, kind);
+        }
+        for (int kind : Check.FAR_OUT) {
+            refusesKind(x, kind);
+        }
+        x.kind(1, 1, 1);
+        Check.same("kind 1 when it is there", "done", Check.outcome(() -> x.holds(1, 0, 0, 0)));
+        Check.refuses("kind 2 still not", Check.INDEX, () -> x.holds(2, 0, 0, 0));
+    }
+
+    private static void refusesKind(AlloyPlans x, int kind) {
+        Check.refuses("holds of kind " + kind, Check.INDEX, () -> x.holds(kind, 0, 0, 0));
+        Check.refuses("holds of kind " + kind + " and no element", Check.INDEX, () -> x.holds(kind, 4, 0, 0));
     }
 }

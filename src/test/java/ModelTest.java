@@ -18,10 +18,12 @@ public final class ModelTest {
 
     public static void main(String[] args) {
         ModelTest test = new ModelTest(20_261_115L);
-        for (int run = 0; run < RUNS; run++) {
-            test.play(run);
-        }
-        test.tellsWhetherItSawMuch();
+        Check.sentence("all promises: mixed runs of 512 calls", () -> {
+            for (int run = 0; run < RUNS; run++) {
+                test.play(run);
+            }
+        });
+        Check.sentence("all promises: the mixed runs saw much", test::tellsWhetherItSawMuch);
         Check.end();
     }
 

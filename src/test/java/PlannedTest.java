@@ -1,8 +1,10 @@
 /** Promise 10: planned. */
 public final class PlannedTest {
     public static void main(String[] args) {
-        sumsOverKinds();
-        refuses();
+        Check.sentence("planned: what 0 cents, 1 kilos added, 2 kinds, 3 cooling", PlannedTest::sumsOverKinds);
+        Check.sentence("planned: .. of no step", PlannedTest::sumsNothing);
+        Check.sentence("planned: Index: no such what", PlannedTest::refusesNoSuchWhat);
+        Check.sentence("planned: turn: there is no plan", PlannedTest::refusesWithoutAPlan);
         Check.end();
     }
 
@@ -17,36 +19,46 @@ public final class PlannedTest {
             x.aim(kind, 200 + 100 * kind, 900 + 100 * kind);
         }
         Check.gives("run", 0, () -> x.run(64));
-        int[] due = {83, 33, 4, 64};
-        has(x, due);
+        has(x, 83, 33, 4, 64);
         x.aim(0, 0, 100_000);
         x.aim(1, 0, 100_000);
         x.run(64);
-        has(x, new int[] {38, 22, 2, 56});
+        has(x, 38, 22, 2, 56);
     }
 
-    private static void has(AlloyPlans x, int[] due) {
+    private static void sumsNothing() {
+        AlloyPlans x = new AlloyPlans();
+        x.run(0);
+        has(x, 0, 0, 0, 0);
+        AlloyPlans y = Check.withPlan();
+        y.aim(0, 0, 100_000);
+        y.run(1000);
+        has(y, 0, 0, 0, 0);
+    }
+
+    private static void has(AlloyPlans x, int... due) {
         for (int i = 0; i < 4; i++) {
             int what = i;
             Check.gives("planned " + what, due[what], () -> x.planned(what));
         }
     }
 
-    private static void refuses() {
+    private static void refusesNoSuchWhat() {
         AlloyPlans x = Check.withPlan();
-        refusesIndexes(x);
+        for (int what : new int[] {-1, 4, 5}) {
+            Check.refuses("planned " + what, Check.INDEX, () -> x.planned(what));
+        }
+        for (int what : Check.FAR_OUT) {
+            Check.refuses("planned " + what, Check.INDEX, () -> x.planned(what));
+        }
+    }
+
+    private static void refusesWithoutAPlan() {
+        AlloyPlans x = Check.withPlan();
         x.present(3, 0, 0);
         for (int i = 0; i < 4; i++) {
             int what = i;
-            Check.refuses("no plan", Check.TURN, () -> x.planned(what));
-        }
-        refusesIndexes(x);
-    }
-
-    private static void refusesIndexes(AlloyPlans x) {
-        Check.refuses("planned 4", Check.INDEX, () -> x.planned(4));
-        for (int what : Check.FAR_OUT) {
-            Check.refuses("planned " + what, Check.INDEX, () -> x.planned(what));
+            Check.refuses("planned " + what, Check.TURN, () -> x.planned(what));
         }
     }
 }

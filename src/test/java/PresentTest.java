@@ -1,11 +1,11 @@
 /** Promise 3: present. */
 public final class PresentTest {
     public static void main(String[] args) {
-        AlloyPlans x = Check.withPlan();
-        SpanChecks.check("present", x, 1, x::present);
-        tellsEachElementApart();
-        tellsASampleBehindAnAdding();
-        forgetsThePlan();
+        Check.sentence("present: what is present at first", PresentTest::tellsEachElementApart);
+        Check.sentence("present: A sample", PresentTest::tellsASampleBehindAnAdding);
+        Check.sentence("present: Index: no such element", () -> SpanChecks.noSuchElement(AlloyPlans::present));
+        Check.sentence("present: range: shares", () -> SpanChecks.sharesOutOfRange(AlloyPlans::present));
+        Check.sentence("present: range: low above high", () -> SpanChecks.lowAboveHigh(AlloyPlans::present));
         Check.end();
     }
 
@@ -33,16 +33,11 @@ public final class PresentTest {
         Check.gives("sampled low", 900, () -> x.heatAt(1));
         Check.gives("sampled high", 3001, () -> x.heatAt(2));
         Check.gives("kilos stay", 104, () -> x.heatAt(0));
+        Check.gives("cents stay", 20, () -> x.heatAt(9));
         Check.gives("a correction for the low end", 1, () -> x.run(0));
         x.present(0, 900, 1000);
         Check.gives("a correction", 0, () -> x.run(1000));
         Check.gives("its steps", 1, () -> x.steps(0));
         Check.gives("corrections", 1, x::add);
-    }
-
-    private static void forgetsThePlan() {
-        AlloyPlans x = Check.withPlan();
-        x.present(0, 100, 200);
-        Check.planIsForgotten("behind the same sample again", x);
     }
 }

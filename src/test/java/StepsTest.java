@@ -1,8 +1,9 @@
 /** Promise 9: steps. */
 public final class StepsTest {
     public static void main(String[] args) {
-        tellsStepsOfEachKind();
-        refuses();
+        Check.sentence("steps: A kind's steps in the plan", StepsTest::tellsStepsOfEachKind);
+        Check.sentence("steps: Index: no such kind", StepsTest::refusesNoSuchKind);
+        Check.sentence("steps: turn: there is no plan", StepsTest::refusesWithoutAPlan);
         Check.end();
     }
 
@@ -26,23 +27,31 @@ public final class StepsTest {
         Check.gives("steps told anew", 0, () -> x.steps(2));
     }
 
-    private static void refuses() {
+    private static void refusesNoSuchKind() {
         AlloyPlans x = Check.withPlan();
-        refusesIndexes(x);
-        x.aim(3, 0, 0);
-        Check.refuses("no plan", Check.TURN, () -> x.steps(0));
-        refusesIndexes(x);
-        x.run(1000);
-        x.add();
-        Check.refuses("no plan behind an adding", Check.TURN, () -> x.steps(0));
-    }
-
-    private static void refusesIndexes(AlloyPlans x) {
-        for (int kind : new int[] {1, 2, 3, 4}) {
+        for (int kind : new int[] {-1, 1, 2, 3, 4}) {
             Check.refuses("steps of " + kind, Check.INDEX, () -> x.steps(kind));
         }
         for (int kind : Check.FAR_OUT) {
             Check.refuses("steps of " + kind, Check.INDEX, () -> x.steps(kind));
         }
+        for (int kind = 1; kind < 4; kind++) {
+            x.kind(1, 1, 1);
+        }
+        x.run(1000);
+        Check.gives("the last of four", 0, () -> x.steps(3));
+        Check.refuses("behind the last of four", Check.INDEX, () -> x.steps(4));
+    }
+
+    private static void refusesWithoutAPlan() {
+        AlloyPlans x = Check.withPlan();
+        x.aim(3, 0, 0);
+        Check.refuses("told", Check.TURN, () -> x.steps(0));
+        x.run(0);
+        Check.refuses("not found", Check.TURN, () -> x.steps(0));
+        x.run(1000);
+        Check.gives("found", 2, () -> x.steps(0));
+        x.add();
+        Check.refuses("added", Check.TURN, () -> x.steps(0));
     }
 }

@@ -1,10 +1,11 @@
 /** Promise 7: yields. */
 public final class YieldsTest {
     public static void main(String[] args) {
-        tellsYieldAndCooling();
-        refusesNoSuchKind();
-        refusesWhatIsOutOfRange();
-        forgetsThePlanUnlessRefused();
+        Check.sentence("yields: A kind's yield and cooling", YieldsTest::tellsYieldAndCooling);
+        Check.sentence("yields: A kind's: not another's", YieldsTest::tellsEachKindApart);
+        Check.sentence("yields: Index: no such kind", YieldsTest::refusesNoSuchKind);
+        Check.sentence("yields: range: they are not so (the yield)", YieldsTest::refusesYields);
+        Check.sentence("yields: range: they are not so (the cooling)", YieldsTest::refusesCooling);
         Check.end();
     }
 
@@ -31,38 +32,60 @@ public final class YieldsTest {
         Check.gives("low of all", 500, () -> x.after(0, 0, 0));
     }
 
+    private static void tellsEachKindApart() {
+        AlloyPlans x = new AlloyPlans();
+        for (int kind = 0; kind < 4; kind++) {
+            x.kind(1, 1, 1);
+            x.holds(kind, kind, 1000, 1000);
+            x.aim(kind, 1, 100_000);
+        }
+        for (int kind = 0; kind < 4; kind++) {
+            x.yields(kind, 100 + 5 * kind, 1 + kind);
+        }
+        Check.gives("run", 0, () -> x.run(10));
+        Check.gives("cooling", 10, () -> x.planned(3));
+        for (int i = 0; i < 4; i++) {
+            int element = i;
+            Check.gives("a fifth of what stays", 20 + element, () -> x.after(element, 0, 0));
+        }
+    }
+
     private static void refusesNoSuchKind() {
         AlloyPlans x = Check.withPlan();
-        for (int kind : new int[] {1, 3, 4}) {
+        for (int kind : new int[] {-1, 1, 3, 4}) {
             Check.refuses("yields of kind " + kind, Check.INDEX, () -> x.yields(kind, 0, 0));
         }
         for (int kind : Check.FAR_OUT) {
             Check.refuses("yields of kind " + kind, Check.INDEX, () -> x.yields(kind, 0, 0));
-            Check.refuses("index comes before range", Check.INDEX, () -> x.yields(kind, 1001, 1001));
         }
+        x.kind(1, 1, 1);
+        Check.same("kind 1 when it is there", "done", Check.outcome(() -> x.yields(1, 0, 0)));
+        Check.refuses("kind 2 still not", Check.INDEX, () -> x.yields(2, 0, 0));
     }
 
-    private static void refusesWhatIsOutOfRange() {
+    private static void refusesYields() {
         AlloyPlans x = Check.withPlan();
         for (int number : new int[] {-1, 1001}) {
             Check.refuses("yield " + number, Check.RANGE, () -> x.yields(0, number, 0));
-            Check.refuses("cooling " + number, Check.RANGE, () -> x.yields(0, 0, number));
         }
         for (int number : Check.FAR_OUT) {
             Check.refuses("yield " + number, Check.RANGE, () -> x.yields(0, number, 0));
-            Check.refuses("cooling " + number, Check.RANGE, () -> x.yields(0, 0, number));
         }
         x.run(1000);
         Check.gives("a refused yield is not told", 2, () -> x.steps(0));
-        Check.gives("a refused cooling is not told", 12, () -> x.planned(3));
+        Check.gives("its cooling is not told", 12, () -> x.planned(3));
     }
 
-    private static void forgetsThePlanUnlessRefused() {
+    private static void refusesCooling() {
         AlloyPlans x = Check.withPlan();
-        Check.refuses("yields", Check.RANGE, () -> x.yields(0, 1001, 0));
-        Check.refuses("yields", Check.INDEX, () -> x.yields(1, 0, 0));
-        Check.planStands("behind refused yields", x);
-        x.yields(0, 500, 3);
-        Check.planIsForgotten("behind the same yield again", x);
+        for (int number : new int[] {-1, 1001}) {
+            Check.refuses("cooling " + number, Check.RANGE, () -> x.yields(0, 0, number));
+        }
+        for (int number : Check.FAR_OUT) {
+            Check.refuses("cooling " + number, Check.RANGE, () -> x.yields(0, 0, number));
+        }
+        x.run(1000);
+        Check.gives("a refused cooling is not told", 12, () -> x.planned(3));
+        Check.gives("its yield is not told", 2, () -> x.steps(0));
     }
 }
