@@ -49,6 +49,8 @@ public final class KindTest {
         x.aim(0, 0, 50_000);
         Check.gives("a kind holds nothing at first", 0, () -> x.run(0));
         Check.gives("one step thins by half", 1, () -> x.steps(0));
+        Check.gives("low", 50_000, () -> x.after(0, 0, 0));
+        Check.gives("high", 50_000, () -> x.after(0, 1, 0));
         Check.gives("a kind does not cool at first", 0, () -> x.planned(3));
         x.present(0, 0, 0);
         x.holds(0, 0, 100_000, 100_000);

@@ -165,6 +165,14 @@ public final class TermsPlanTest {
         free.aim(0, 160, 100_000);
         Check.gives("run of what costs nothing", 0, () -> free.run(0));
         hasSteps("fewest kinds of what costs nothing", free, 0, 2);
+        AlloyPlans first = ofKinds(10, new int[][] {{8, 2, 1, 1000}, {4, 1, 1, 1000}, {4, 1, 1, 1000}});
+        first.aim(0, 160, 100_000);
+        Check.gives("run", 0, () -> first.run(0));
+        hasSteps("one kind, though two others come first by steps", first, 1, 0, 0);
+        AlloyPlans two = ofKinds(10, new int[][] {{8, 2, 1, 1000}, {4, 1, 1, 1000}, {4, 1, 1, 1000}, {4, 1, 1, 1000}});
+        two.aim(0, 230, 100_000);
+        Check.gives("run", 0, () -> two.run(0));
+        hasSteps("two kinds, though three others come first by steps", two, 1, 0, 0, 1);
         AlloyPlans late = ofKinds(10, new int[][] {{6, 1, 1, 1500}, {6, 1, 1, 1500}, {4, 1, 3, 1000}});
         late.aim(0, 220, 100_000);
         Check.gives("run", 0, () -> late.run(0));

@@ -183,6 +183,10 @@ public final class TermsSpansTest {
             }
             Check.gives("one step halves all elements", 0, () -> x.run(0));
             Check.gives("one step", 1, () -> x.planned(1));
+            for (int i = 0; i < 8; i++) {
+                int place = i;
+                Check.gives("end", 50, () -> x.after(place / 2, place % 2, 0));
+            }
         }
     }
 
