@@ -127,11 +127,11 @@ final class PlainModel {
     }
 
     private boolean isMet(int[] steps, int element) {
-        long all = 1000L * (kilos + kilos(steps));
+        long all = 1000L * allKilos(steps);
         return upper(steps, element, 0) >= all * aim[element][0] && upper(steps, element, 1) <= all * aim[element][1];
     }
 
-    private long upper(int[] steps, int element, int end) {
+    long upper(int[] steps, int element, int end) {
         long sum = 1000L * kilos * present[element][end];
         for (int i = 0; i < 4; i++) {
             sum += (long) steps[i] * kind[i][1] * holds[i][element][end] * yields[i][0];
@@ -157,11 +157,15 @@ final class PlainModel {
         return steps[0] * kind[0][1] + steps[1] * kind[1][1] + steps[2] * kind[2][1] + steps[3] * kind[3][1];
     }
 
+    int allKilos(int[] steps) {
+        return kilos + kilos(steps);
+    }
+
     private int used(int[] steps) {
         return (int) java.util.Arrays.stream(steps).filter(n -> n > 0).count();
     }
 
-    private int cooling(int[] steps) {
+    int cooling(int[] steps) {
         int sum = 0;
         for (int i = 0; i < 4; i++) {
             sum += steps[i] * kind[i][1] * yields[i][1];
@@ -198,13 +202,13 @@ final class PlainModel {
         index(element(element) && 0 <= end && end <= 1 && 0 <= part && part <= 1);
         turn(plan != null);
         BigInteger upper = BigInteger.valueOf(upper(plan, element, end));
-        BigInteger lower = BigInteger.valueOf(1000L * (kilos + kilos(plan)));
+        BigInteger lower = BigInteger.valueOf(1000L * allKilos(plan));
         return (part == 0 ? upper : lower).divide(upper.gcd(lower)).longValueExact();
     }
 
     int add() {
         turn(plan != null);
-        int all = kilos + kilos(plan);
+        int all = allKilos(plan);
         meaning(all <= 65_536);
         for (int e = 0; e < 4; e++) {
             long low = Math.floorDiv(upper(plan, e, 0), 1000L * all);
